@@ -251,7 +251,8 @@ public final class ArmSignals {
         return 1;
     }
 
-    // ---- sheets 0 .. 3
+    // ---- sheets 0 .. 3: nothing (at first), or a row of a LANE: 0 bytes, 1 shorts, 2 ints, 3 longs
+    // (all with a sign), of 0 to 24 items
 
     public int seen(int sheet, int lane, int i, int n) {
         if (n < 1 || n > LONGEST_WORD) {
@@ -431,8 +432,8 @@ public final class ArmSignals {
     }
 
     private static int stepsBetween(int p, int q) {
-        int oneWay = Math.abs(p - q);
-        return Math.min(oneWay, DIRECTIONS - oneWay);
+        int oneWay = p < q ? q - p : p - q;
+        return oneWay <= DIRECTIONS / 2 ? oneWay : DIRECTIONS - oneWay;
     }
 
     private static int between(int p, int q, int r, int s) {
@@ -725,8 +726,9 @@ public final class ArmSignals {
 
         private int effortBy(Station station, int place, int s, int nextSide) {
             int next = place + 1;
-            int move = station.effortOf(dirOf(place, s), dirOf(place, 1 - s), dirOf(next, nextSide), dirOf(next, 1 - nextSide));
-            return move + effort[2 * next + nextSide];
+            int left = dirOf(next, nextSide);
+            int right = dirOf(next, 1 - nextSide);
+            return station.effortOf(dirOf(place, s), dirOf(place, 1 - s), left, right) + effort[2 * next + nextSide];
         }
 
         private int dirOf(int place, int s) {

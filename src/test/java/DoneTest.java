@@ -135,6 +135,14 @@ public final class DoneTest {
         x.undo();
         due.is("22 the TAPE stays", x.type('b'), 2);
         due.is("22 SHEETS stay", x.drop(0), 3);
+        x.say(2);
+        x.say(3);
+        String said = Due.message(x);
+        x.say(4);
+        x.undo();
+        due.holds("22 a LETTER said", Due.message(x).equals(said));
+        x.undo();
+        x.undo();
         x.say(26);
         due.is("22 what is refused is not known", x.count(5), 0);
         x.drift(6);

@@ -86,6 +86,14 @@ public final class EffortTest {
         due.is("15 WORD and LETTER behind, SIGNS", x.brief(1), 3);
         due.is("15 brief(2)", x.brief(2), ArmSignals.BAD);
         due.is("15 brief(-1)", x.brief(-1), ArmSignals.BAD);
+        // The right arm is dear. By LETTERS: 1 for a, then the left arm 3 and the right one 1 each time.
+        // By CALL, left 5 (3 steps), right 4 (4 steps), then d, left 0 (3 steps more).
+        Due.text(x, "b,b,b,azazaz:azazaz");
+        x.tell(1, 4);
+        due.is("15 a dear right arm, by LETTERS", x.least(0), 1 + 5 * (3 + 4));
+        due.is("15 a dear right arm", x.brief(0), 3 + 4 * 4 + 3);
+        due.is("15 a dear right arm, SIGNS", x.brief(1), 2);
+        x.tell(1, 1);
         // tu: 3 4, 3 5; WORD 0 by CALL 4 5, a 0 1: dearer, so it is not called.
         Due.text(x, "tu:tu");
         due.is("15 a WORD that is dearer", x.brief(0), x.least(0));

@@ -8,7 +8,7 @@ import java.util.regex.Pattern;
 
 /** What of LANGUAGE.md can be seen in the source's letters. The first argument names the source. */
 public final class LanguageTest {
-    private static final Set<String> LIBRARY = Set.of("Math.min", "Math.max", "Math.abs", "Integer.bitCount",
+    private static final Set<String> LIBRARY = Set.of("Math.min", "Math.max", "Integer.bitCount",
         "System.arraycopy", "Arrays.fill");
 
     public static void main(String[] args) throws Exception {
