@@ -98,9 +98,11 @@ public final class LettersTest {
         ArmSignals x = new ArmSignals();
         due.says(4, "By how many two LETTERS (26: CALL) are APART.");
         for (int a = 0; a < 27; a++) {
-            due.is("itself " + a, x.apart(a, a), 0);
+            // No object has more calls than the 512 that are promised.
+            ArmSignals y = new ArmSignals();
+            due.is("itself " + a, y.apart(a, a), 0);
             for (int b = 0; b < 27; b++) {
-                due.is("both ways alike " + a + " " + b, x.apart(a, b), x.apart(b, a));
+                due.is("both ways alike " + a + " " + b, y.apart(a, b), y.apart(b, a));
             }
         }
         due.is("a 0 1, g 0 7", x.apart(0, 6), 2);
