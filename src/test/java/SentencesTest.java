@@ -22,10 +22,6 @@ public final class SentencesTest {
     public static void main(String[] args) throws IOException {
         Path document = Path.of(args.length > 0 ? args[0] : "../shared/DOC.md");
         Path tests = Path.of(args.length > 1 ? args[1] : "src/test/java");
-        if (!Files.exists(document)) {
-            System.out.println("there is no " + document + " to compare with: no sentence was looked up");
-            return;
-        }
         Map<Integer, String> sections = sections(Files.readString(document));
         due.is("the Terms and 31 promises", sections.size(), 32);
         Map<Integer, boolean[]> quoted = new TreeMap<>();
